@@ -607,13 +607,10 @@ public final class YearFractions {
 
         static int yearOf(int calendar, int n) {
             long days = n - FIRST_DAY[calendar];
-            long mean = Math.floorDiv(days * CYCLE_YEARS[calendar], (long) CYCLE_DAYS[calendar]) + 1;
-            // Leap years lie unevenly in their cycle: the year may be one beside the mean one.
-            int year = (int) mean - 1;
-            for (int step = 0; step < 2 && newYear(calendar, year + 1) <= n; step++) {
-                year++;
-            }
-            return year;
+            int mean = (int) Math.floorDiv(days * CYCLE_YEARS[calendar], (long) CYCLE_DAYS[calendar]) + 1;
+            // Leap years lie unevenly in their cycle: a year begins less than a day behind its mean
+            // place, but up to two days ahead of it.
+            return newYear(calendar, mean + 1) <= n ? mean + 1 : mean;
         }
 
         static int monthOf(int calendar, int year, int n) {

@@ -3,6 +3,7 @@ public final class DaysTest {
     public static void main(String[] args) {
         knownDays();
         noSuchDays();
+        endsOfMonths();
         wrongDates();
         Due.end("DaysTest");
     }
@@ -104,6 +105,24 @@ public final class DaysTest {
         }
         isDay(0, 3, 4, 13, 6);
         isDay(0, 3, 4, 12, 31);
+    }
+
+    private static void endsOfMonths() {
+        int[][] lengths = {
+            {31, 28, 31, 30, 31, 30, 31, 31, 30, 31, 30, 31},
+            {31, 28, 31, 30, 31, 30, 31, 31, 30, 31, 30, 31},
+            {30, 29, 30, 29, 30, 29, 30, 29, 30, 29, 30, 29},
+            {30, 30, 30, 30, 30, 30, 30, 30, 30, 30, 30, 30, 5},
+        };
+        for (int calendar = 0; calendar < 4; calendar++) {
+            for (int month = 1; month <= lengths[calendar].length; month++) {
+                int length = lengths[calendar][month - 1];
+                isDay(1, calendar, 1, month, 1);
+                isDay(1, calendar, 1, month, length);
+                isDay(0, calendar, 1, month, length + 1);
+                isDay(0, calendar, 1, month, 0);
+            }
+        }
     }
 
     private static void wrongDates() {
