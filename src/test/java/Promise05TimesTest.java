@@ -239,6 +239,6 @@ public final class Promise05TimesTest {
         Due.changesNothing("times(0, 1, 0)", Due.ARGUMENT, Made::several, x -> x.times(0, 1, 0));
         Due.changesNothing("times(0, 4, 1)", Due.ARGUMENT, Made::several, x -> x.times(0, 4, 1));
         Due.changesNothing("times(0, 0, 1)", Due.ARITHMETIC, Made::several, x -> x.times(0, 0, 1));
-        Due.changesNothing("times(2, 2, 7), with rests", Due.ARITHMETIC, Made::several, x -> x.times(2, 2, 7));
+        Due.changesNothing("times(2, 2, 100), with rests", Due.ARITHMETIC, Made::several, x -> x.times(2, 2, 100));
     }
 }

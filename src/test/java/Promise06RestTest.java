@@ -80,7 +80,7 @@ public final class Promise06RestTest {
         Due.is("rest() behind IndexOutOfBoundsException", 1, x::rest);
         Due.argument("times(0, 4, 4)", () -> x.times(0, 4, 4));
         Due.is("rest() behind IllegalArgumentException", 1, x::rest);
-        Due.arithmetic("times(2, 2, 7)", () -> x.times(2, 2, 7));
+        Due.arithmetic("times(2, 2, 100)", () -> x.times(2, 2, 100));
         Due.is("rest() behind ArithmeticException", 1, x::rest);
         YearFractions y = Made.full();
         Due.state("times(0, 1, 4) of nine", () -> y.times(0, 1, 4));
